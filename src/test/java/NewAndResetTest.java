@@ -1,10 +1,9 @@
 /** Promise 1, a new object, and promise 2, reset. */
 public final class NewAndResetTest {
     public static void main(String[] args) {
-        SlotCore fresh = new SlotCore();
-        asAtFirst("new", fresh);
+        asAtFirst("new", new SlotCore());
         for (int place = 0; place < 4096; place += 4) {
-            Check.is("new: word " + place, fresh.word(place), 0);
+            Check.is("new: word " + place, new SlotCore().word(place), 0);
         }
         objectsShareNothing();
         resetKeepsMemoryAlone();
