@@ -746,7 +746,6 @@ public final class SlotCore {
 
         private void begin(int following) {
             register = NONE;
-            value = 0;
             isLoad = false;
             isBranch = false;
             afterNext = following;

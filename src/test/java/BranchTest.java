@@ -11,6 +11,7 @@ public final class BranchTest {
         farJumps();
         backwards();
         branchInSlot();
+        othersInSlot();
         slotEndsBehindOneInstruction();
         Check.end();
     }
@@ -145,6 +146,19 @@ public final class BranchTest {
                 Check.is("nor there", x.register(4), other);
                 Check.is("in no slot", x.look(6), 0);
             }
+        }
+    }
+
+    private static void othersInSlot() {
+        int[] others = {
+            Code.k(0, 0, 0, 0), Code.k(7, 0, 0, 0), Code.k(16, 0, 0, 0), Code.k(26, 0, 0, 0), Code.k(32, 0, 0, 0),
+            Code.i(8, 0, 3, 5), Code.i(9, 0, 3, 5), Code.i(15, 0, 3, 5), Code.from(3, 12), Code.to(3, 14), Code.leave(),
+            Code.i(32, 0, 3, 5), Code.i(43, 0, 3, 64)};
+        for (int other : others) {
+            SlotCore x = Code.machine(Code.far(2, 20), other);
+            Check.is("done in a slot: " + Integer.toHexString(other), x.run(2), 0);
+            Check.is("PC", x.look(0), 80);
+            Check.is("in no slot", x.look(6), 0);
         }
     }
 

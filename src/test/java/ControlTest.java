@@ -51,6 +51,10 @@ public final class ControlTest {
             Check.is("none waits", x.look(7), SlotCore.NONE);
             Check.is("T stays", x.register(3), -2);
         }
+        SlotCore all = afterFault(Code.to(3, 13));
+        all.set(3, -1);
+        all.step();
+        Check.is("of CAUSE bits 8 and 9 alone", all.look(3), 5 << 10 | 4 << 2 | 0x300);
         SlotCore y = afterFault(Code.to(3, 13), Code.to(4, 13), Code.to(0, 13));
         y.set(3, 0x100);
         y.set(4, 0x200);

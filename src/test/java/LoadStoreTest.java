@@ -8,6 +8,7 @@ public final class LoadStoreTest {
         loadedPieces();
         stores();
         storedPieces();
+        everyBit();
         addresses();
         badAddresses();
         user();
@@ -90,6 +91,42 @@ public final class LoadStoreTest {
         storeGives(46, 3, OLD);
     }
 
+    private static void everyBit() {
+        int[] bytes = {8, 8, 8, 8};
+        int[] halves = {16, 0, 16, 0};
+        int[] words = {32, 0, 0, 0};
+        int[] toEnd = {32, 24, 16, 8};
+        int[] fromStart = {8, 16, 24, 32};
+        int[][] loads = {bytes, halves, toEnd, words, bytes, halves, fromStart};
+        int[][] stores = {bytes, halves, toEnd, words, null, null, fromStart};
+        for (int n = 0; n < 7; n++) {
+            for (int offset = 0; offset < 4; offset++) {
+                if (loads[n][offset] > 0) {
+                    boolean signed = n < 2;
+                    Check.is("bits of load " + n, bitsLoaded(32 + n, offset), signed ? 32 : loads[n][offset]);
+                }
+                if (stores[n] != null && stores[n][offset] > 0) {
+                    Check.is("bits of store " + n, bitsStored(40 + n, offset, -1, 0), stores[n][offset]);
+                    Check.is("bits left by store " + n, bitsStored(40 + n, offset, 0, -1), 32 - stores[n][offset]);
+                }
+            }
+        }
+    }
+
+    private static int bitsLoaded(int order, int offset) {
+        SlotCore x = Code.two(508, 0, Code.i(order, 1, 2, offset));
+        x.put(508, -1);
+        x.step();
+        return Integer.bitCount(x.look(8));
+    }
+
+    private static int bitsStored(int order, int offset, int t, int word) {
+        SlotCore x = Code.two(508, t, Code.i(order, 1, 2, offset));
+        x.put(508, word);
+        x.step();
+        return Integer.bitCount(x.word(508));
+    }
+
     private static void addresses() {
         for (int high : new int[] {0, 0x20000000, 0x40000000, 0x60000000, 0x80000000, 0xA0000000, 0xC0000000, 0xE0000000}) {
             SlotCore x = Code.two(high + 4092, 77, Code.i(43, 1, 2, 0), Code.i(35, 1, 3, 0), Code.nothing());
@@ -139,6 +176,7 @@ public final class LoadStoreTest {
         for (int order = 32; order < 39; order++) {
             faults(order, 0x80000FFC, 2, 4);
             faults(order, 0xFFFFFFFC, 2, 4);
+            faults(order, 0xFFFFFFFF, 2, 4);
             faults(order, 0x60000FFC, 2, -1);
             faults(order, 0x7FFFFFFC, 2, 7);
             faults(order, 0x80000FFC, 0x3C, -1);
@@ -146,6 +184,7 @@ public final class LoadStoreTest {
         for (int order : new int[] {40, 41, 42, 43, 46}) {
             faults(order, 0x80000FFC, 2, 5);
             faults(order, 0xFFFFFFFC, 2, 5);
+            faults(order, 0xFFFFFFFF, 2, 5);
             faults(order, 0x60000FFC, 2, -1);
             faults(order, 0x7FFFFFFC, 2, 7);
             faults(order, 0x80000FFC, 0x3C, -1);

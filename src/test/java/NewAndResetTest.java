@@ -45,6 +45,7 @@ public final class NewAndResetTest {
         x.go(6);
         x.status(0);
         Check.is("a bad address", x.step(), 1);
+        x.status(-1);
         x.reset();
         asAtFirst("reset", x);
         Check.is("reset: word 0", x.word(0), Code.i(8, 1, 1, 1));

@@ -46,6 +46,7 @@ public final class ProductTest {
         gives(26, 5, 0, 5, -1);
         gives(26, 0, 0, 0, -1);
         gives(26, -5, 0, -5, 1);
+        gives(26, -1, 0, -1, 1);
         gives(26, LEAST, 0, LEAST, 1);
         gives(27, 7, 2, 1, 3);
         gives(27, -7, 2, 1, 0x7FFFFFFC);

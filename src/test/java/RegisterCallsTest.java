@@ -7,6 +7,7 @@ public final class RegisterCallsTest {
         zeroStaysZero();
         highAndLow();
         beforeTheLoadComes();
+        stayWithoutAResult();
         wrongRegisters();
         Check.end();
     }
@@ -52,6 +53,20 @@ public final class RegisterCallsTest {
         Check.is("the load waits still", x.look(7), 5);
         x.step();
         Check.is("the load comes all the same", x.register(5), 99);
+    }
+
+    private static void stayWithoutAResult() {
+        int[] without = {
+            Code.i(43, 0, 2, 64), Code.i(4, 0, 0, 5), Code.i(5, 0, 0, 5), Code.far(2, 5), Code.k(8, 0, 0, 0),
+            Code.k(17, 0, 0, 1), Code.k(24, 0, 0, 1), Code.k(27, 0, 0, 1), Code.to(0, 14), Code.leave(),
+            Code.i(35, 0, 2, 64), Code.k(12, 0, 0, 0)};
+        for (int w : without) {
+            SlotCore x = Code.machine(Code.i(9, 0, 1, 5), w);
+            x.step();
+            x.set(1, 77);
+            x.step();
+            Check.is("stays behind " + Integer.toHexString(w), x.register(1), 77);
+        }
     }
 
     private static void wrongRegisters() {
