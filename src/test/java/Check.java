@@ -45,6 +45,20 @@ final class Check {
 
     static final int SEEN = 45;
 
+    /** What look answers for 0, 1, 2 and so on. */
+    static void looks(String what, SlotCore x, int... want) {
+        for (int n = 0; n < want.length; n++) {
+            is(what + ": look " + n, x.look(n), want[n]);
+        }
+    }
+
+    /** That two machines cannot be told apart but by their memory. */
+    static void same(String what, SlotCore x, SlotCore y) {
+        for (int n = 0; n < SEEN; n++) {
+            is(what + ": " + (n < 34 ? "register " + n : "look " + (n - 34)), seen(x, n), seen(y, n));
+        }
+    }
+
     static void end() {
         if (looked == 0) {
             System.out.println("nothing was looked at");

@@ -52,6 +52,16 @@ final class Code {
         return x;
     }
 
+    /** A new machine with these words from an address on, about to do the first of them. */
+    static SlotCore at(int address, int... words) {
+        SlotCore x = new SlotCore();
+        for (int n = 0; n < words.length; n++) {
+            x.put((address & 0x1FFFFFFF) + 4 * n, words[n]);
+        }
+        x.go(address);
+        return x;
+    }
+
     /** A new machine that has S = s in register 1 and T = t in register 2. */
     static SlotCore two(int s, int t, int... words) {
         SlotCore x = machine(words);

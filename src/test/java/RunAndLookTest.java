@@ -42,9 +42,7 @@ public final class RunAndLookTest {
             came += one.step() == 0 ? 0 : 1;
         }
         Check.is("run 200", other.run(200), came);
-        for (int what = 0; what < Check.SEEN; what++) {
-            Check.is("seen " + what, Check.seen(other, what), Check.seen(one, what));
-        }
+        Check.same("run and steps", other, one);
     }
 
     private static void wrongRuns() {
@@ -52,9 +50,7 @@ public final class RunAndLookTest {
         for (int n : new int[] {-1, 5001, -5000, Integer.MAX_VALUE, Integer.MIN_VALUE}) {
             Check.illegalArgument("run " + n, () -> x.run(n));
         }
-        for (int what = 0; what < Check.SEEN; what++) {
-            Check.is("unchanged", Check.seen(x, what), Check.seen(new SlotCore(), what));
-        }
+        Check.same("unchanged", x, new SlotCore());
     }
 
     private static void lookAtEach() {
@@ -65,20 +61,14 @@ public final class RunAndLookTest {
         x.go(8);
         x.status(0x134);
         x.lines(3);
-        looksAre(x, 8, 12, 0x134, 3 << 10 | 16, 0, 63, 0, SlotCore.NONE, 0, 1, 1);
+        Check.looks("each", x, 8, 12, 0x134, 3 << 10 | 16, 0, 63, 0, SlotCore.NONE, 0, 1, 1);
         x.step();
-        looksAre(x, 12, 16, 0x134, 3 << 10 | 16, 0, 63, 0, 6, -9, 2, 1);
+        Check.looks("each", x, 12, 16, 0x134, 3 << 10 | 16, 0, 63, 0, 6, -9, 2, 1);
         x.step();
-        looksAre(x, 16, 20, 0x134, 3 << 10 | 16, 0, 63, 1, SlotCore.NONE, 0, 3, 1);
+        Check.looks("each", x, 16, 20, 0x134, 3 << 10 | 16, 0, 63, 1, SlotCore.NONE, 0, 3, 1);
         x.put(16, -1);
         x.step();
-        looksAre(x, Code.HANDLER, Code.HANDLER + 4, 0x110, 1 << 31 | 3 << 10 | 40, 12, 63, 0, SlotCore.NONE, 0, 4, 2);
-    }
-
-    private static void looksAre(SlotCore x, int... want) {
-        for (int what = 0; what < want.length; what++) {
-            Check.is("look " + what, x.look(what), want[what]);
-        }
+        Check.looks("each", x, Code.HANDLER, Code.HANDLER + 4, 0x110, 1 << 31 | 3 << 10 | 40, 12, 63, 0, SlotCore.NONE, 0, 4, 2);
     }
 
     private static void wrongLooks() {
