@@ -15,6 +15,7 @@ public final class NumberEdgesTest {
         for (int s : EDGES) {
             for (int t : EDGES) {
                 sums(s, t);
+                bits(s, t);
                 comparisons(s, t);
                 products(s, t);
                 quotients(s, t);
@@ -23,6 +24,7 @@ public final class NumberEdgesTest {
                 numbers(s, i);
             }
             shifts(s);
+            moves(s);
         }
         firstThatIsNotExact();
         quotientsAsTold();
@@ -79,6 +81,14 @@ public final class NumberEdgesTest {
         exactly(Code.k(34, 1, 2, 3), s, t, with(s).subtract(with(t)));
         gives(Code.k(33, 1, 2, 3), s, t, with(s).add(with(t)).intValue());
         gives(Code.k(35, 1, 2, 3), s, t, with(s).subtract(with(t)).intValue());
+    }
+
+    /** "36 .. 39 and, or, exclusive or, neither." */
+    private static void bits(int s, int t) {
+        gives(Code.k(36, 1, 2, 3), s, t, with(s).and(with(t)).intValue());
+        gives(Code.k(37, 1, 2, 3), s, t, with(s).or(with(t)).intValue());
+        gives(Code.k(38, 1, 2, 3), s, t, with(s).xor(with(t)).intValue());
+        gives(Code.k(39, 1, 2, 3), s, t, with(s).or(with(t)).not().intValue());
     }
 
     /** "42, 43 D = 1 if S < T, else 0, with sign and without." */
@@ -140,6 +150,18 @@ public final class NumberEdgesTest {
         gives(left, s, v, with(v).shiftLeft(by).intValue());
         gives(right, s, v, without(v).shiftRight(by).intValue());
         gives(withSign, s, v, with(v).shiftRight(by).intValue());
+    }
+
+    /** "16, 18 D = HIGH, LOW; 17, 19 HIGH, LOW = S." */
+    private static void moves(int v) {
+        SlotCore x = Code.at(64, Code.k(17, 1, 0, 0), Code.k(19, 2, 0, 0), Code.k(16, 0, 0, 3), Code.k(18, 0, 0, 4));
+        x.set(1, v);
+        x.set(2, ~v);
+        Check.is("moves of " + v, x.run(4), 0);
+        Check.is("HIGH of " + v, x.register(32), v);
+        Check.is("LOW of " + v, x.register(33), ~v);
+        Check.is("D from HIGH", x.register(3), v);
+        Check.is("D from LOW", x.register(4), ~v);
     }
 
     private static void firstThatIsNotExact() {

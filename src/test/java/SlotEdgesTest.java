@@ -22,6 +22,7 @@ public final class SlotEdgesTest {
         leastAndGreatestJump();
         branchAtTheLastPlace();
         links();
+        branchesAtTheirBounds();
         slotWhetherItWentOrNot();
         slotIsOneInstruction();
         branchInSlotIsAheadOfAll();
@@ -199,6 +200,32 @@ public final class SlotEdgesTest {
             Check.is("link to S", z.register(3), address + 8);
             Check.is("S is read first", z.look(1), 512);
         }
+    }
+
+    /** "If S < 0", ">= 0", "<= 0", "> 0"; "if S is T, is not T". */
+    private static void branchesAtTheirBounds() {
+        for (int s : new int[] {LEAST, LEAST + 1, -2, -1, 0, 1, 2, MOST - 1, MOST}) {
+            branches(Code.i(1, 4, 0, 9), s, s < 0);
+            branches(Code.i(1, 4, 16, 9), s, s < 0);
+            branches(Code.i(1, 4, 1, 9), s, s >= 0);
+            branches(Code.i(1, 4, 17, 9), s, s >= 0);
+            branches(Code.i(6, 4, 0, 9), s, s <= 0);
+            branches(Code.i(7, 4, 0, 9), s, s > 0);
+            branches(Code.i(4, 4, 1, 9), s, s == -1);
+            branches(Code.i(5, 4, 1, 9), s, s != -1);
+            branches(Code.i(4, 4, 0, 9), s, s == 0);
+            branches(Code.i(5, 4, 0, 9), s, s != 0);
+            branches(Code.i(4, 4, 4, 9), s, true);
+            branches(Code.i(5, 4, 4, 9), s, false);
+        }
+    }
+
+    private static void branches(int w, int s, boolean goes) {
+        SlotCore x = machine(64, w);
+        x.set(4, s);
+        String what = "branch " + Integer.toHexString(w) + " of " + s;
+        Check.is(what, x.step(), 0);
+        at(what, x, 68, goes ? 64 + 4 + 36 : 72, 1);
     }
 
     /** "Whether it went or not." */
