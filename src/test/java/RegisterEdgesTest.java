@@ -11,6 +11,7 @@ public final class RegisterEdgesTest {
         resultsForZero();
         numbersForZero();
         loadsForZero();
+        exceptionsForZero();
         zeroAsSource();
         sourcesFromFirstToLast();
         lastRegisters();
@@ -118,6 +119,29 @@ public final class RegisterEdgesTest {
         Check.is(what + ": 0 stays 0", x.register(0), 0);
         x.step();
         Check.is(what + " is read then", x.register(6), 0);
+    }
+
+    /** What would go nowhere comes to its exception all the same. */
+    private static void exceptionsForZero() {
+        exceptionForZero(Code.k(32, 1, 2, 0), Integer.MAX_VALUE, 1, 12);
+        exceptionForZero(Code.k(34, 1, 2, 0), Integer.MIN_VALUE, 1, 12);
+        exceptionForZero(Code.i(8, 1, 0, 1), Integer.MAX_VALUE, 0, 12);
+        exceptionForZero(Code.i(33, 1, 0, 0), 1, 0, 4);
+        exceptionForZero(Code.i(35, 1, 0, 0), 2, 0, 4);
+        for (int order = 32; order < 39; order++) {
+            exceptionForZero(Code.i(order, 1, 0, 0), 4096, 0, 7);
+        }
+    }
+
+    private static void exceptionForZero(int w, int s, int t, int code) {
+        String what = "for 0: " + Integer.toHexString(w);
+        SlotCore x = full(w);
+        x.set(1, s);
+        x.set(2, t);
+        Check.is(what, x.step(), 1);
+        Check.is(what + ": code", Code.code(x), code);
+        Check.is(what + ": none waits", x.look(7), SlotCore.NONE);
+        Check.is(what + ": 0 stays 0", x.register(0), 0);
     }
 
     private static void zeroAsSource() {
